@@ -629,7 +629,7 @@ public final class SharedSleeves {
                 }
             }
             boolean together = place[owner[c][0]][hour] == place[owner[c][1]][hour];
-            return choice == BOTH && !isCut(c) && !together ? NONE : set;
+            return choice == BOTH && !together && !isCut(c) ? NONE : set;
         }
 
         int warmthEach(int c, int choice) {
@@ -697,12 +697,20 @@ public final class SharedSleeves {
             int start = at;
             skipLetters();
             int kind = kindOfWord(start);
-            if (kind == NONE || kind != PEOPLE_CLAUSE && t.people == 0) {
+            if (kind == NONE || (kind != PEOPLE_CLAUSE && t.people == 0)) {
                 fail(OUT_OF_PLACE, start);
-            } else if (isOneTooMany(t, kind)) {
+                return;
+            }
+            if (isOneTooMany(t, kind)) {
                 fail(TOO_MANY, start);
-            } else {
-                readRest(t, kind);
+                return;
+            }
+            switch (kind) {
+                case PEOPLE_CLAUSE: readPeople(t); break;
+                case COAT_CLAUSE: readCoat(t); break;
+                case GOES_CLAUSE: readGoes(t); break;
+                case LIKES_CLAUSE: readLikes(t); break;
+                default: readFrost(t); break;
             }
         }
 
@@ -713,16 +721,6 @@ public final class SharedSleeves {
                 case GOES_CLAUSE: return t.errands >= MOST_ERRANDS;
                 case LIKES_CLAUSE: return t.likings >= MOST_LIKINGS;
                 default: return t.frostTold;
-            }
-        }
-
-        private void readRest(Town t, int kind) {
-            switch (kind) {
-                case PEOPLE_CLAUSE: readPeople(t); break;
-                case COAT_CLAUSE: readCoat(t); break;
-                case GOES_CLAUSE: readGoes(t); break;
-                case LIKES_CLAUSE: readLikes(t); break;
-                default: readFrost(t); break;
             }
         }
 
@@ -1054,7 +1052,6 @@ public final class SharedSleeves {
             int first = 0;
             int most = sparedBy(c, 0, dressed);
             for (int choice = 1; choice < CHOICES; choice++) {
-                // NONE has all bits: what cannot be meets those who are dressed, but not if nobody is.
                 if (wearers[c][choice] != NONE && (wearers[c][choice] & dressed) == 0) {
                     int value = sparedBy(c, choice, dressed);
                     if (value > most) {

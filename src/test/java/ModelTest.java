@@ -14,8 +14,8 @@ public final class ModelTest {
     }
 
     public static void main(String[] args) {
-        for (long number = 0; number < 1200; number++) {
-            new ModelTest(number).go(number % 100 == 99 ? 8 : 5, 120);
+        for (long number = 0; number < 2000; number++) {
+            new ModelTest(number).go(number % 100 == 99 ? 8 : 5, 60);
         }
         Checks.finish("ModelTest");
     }
@@ -77,7 +77,11 @@ public final class ModelTest {
 
     private void go(int mostCoats, int calls) {
         makeTown(mostCoats);
-        x = Checks.townOf(text.toString());
+        x = new SharedSleeves();
+        useUp();
+        useUp();
+        Checks.feed(x, text.toString());
+        due("town", model.coats.size(), x.town());
         run += text + " ";
         tellAll();
         for (int i = 0; i < (mostCoats == 8 ? 12 : calls); i++) {
@@ -90,6 +94,24 @@ public final class ModelTest {
         tellAll();
         askDear();
         tellAll();
+    }
+
+    /** Nothing of an earlier town may be left in a later one, but THE SEED. */
+    private void useUp() {
+        Checks.feed(x, "people 8;coat 0 1 99;coat 2 3 50;coat 4 5 60;goes 0 1 2 22;goes 1 1 4 9;goes 5 3 0 20;"
+            + "likes 0 1 99;likes 1 0 90;likes 2 7 50;likes 7 2 50;frost 88;");
+        x.town();
+        x.see(0, 1, 5);
+        x.write(5, 0, 3);
+        x.cut(1);
+        x.cut(0);
+        x.most();
+        x.chill(0, 4);
+        x.keep(0);
+        x.seed(8);
+        x.winter(2);
+        x.seed(0);
+        x.net(4, 0);
     }
 
     private boolean person(int p) {

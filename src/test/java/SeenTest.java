@@ -101,7 +101,7 @@ public final class SeenTest {
     private static void judging() {
         SharedSleeves x = Checks.townOf(TOWN);
         judged(x, NONE);
-        judged(x, NONE, 6, 0, 3, 7, 0, 1, 7, 1, 3 - 1);
+        judged(x, NONE, 6, 0, 3, 7, 0, 1, 7, 1, 2);
         judged(x, 0, 5, 0, 2);
         judged(x, 0, 4, 0, 1);
         judged(x, 0, 5, 0, 3);
@@ -112,6 +112,9 @@ public final class SeenTest {
         judged(x, NONE, 8, 0, 2, 9, 1, 1);
         judged(x, 1, 6, 0, 3, 6, 1, 1);
         judged(x, 2, 6, 1, 1, 5, 0, 1, 6, 0, 3);
+        SharedSleeves three = Checks.townOf("people 4;coat 0 1 9;coat 2 3 9;coat 0 3 9;goes 0 0 1 1;goes 2 0 1 1;goes 3 0 1 1;");
+        judged(three, 2, 1, 0, 1, 1, 1, 1, 1, 2, 1);
+        judged(three, NONE, 1, 0, 1, 1, 1, 1, 1, 2, 2);
         x.cut(0);
         judged(x, NONE, 8, 0, 3);
         judged(x, 0, 5, 0, 3);

@@ -97,6 +97,14 @@ public final class TownTest {
         Checks.due("P3 the seed stays", 99, x.seed(1));
         Checks.due("P3 where is new", NONE, x.where(0, 2));
         Checks.due("P3 likes is new", 0, x.likes(0, 1));
+        x.cut(0);
+        Checks.feed(x, "people 3;coat 0 1 9;coat 1 2 8;");
+        Checks.due("P3 a third town", 2, x.town());
+        Checks.due("P3 nothing is cut", 0, x.told(5));
+        Checks.due("P3 likes is new", 0, x.likes(0, 1));
+        Checks.due("P3 where is new", NONE, x.where(0, 2));
+        Checks.due("P3 no errands", 0, x.told(2));
+        Checks.due("P3 frost is new", 20, x.told(4));
         Checks.due("P3 an empty text", 0, x.town());
         Checks.due("P3 no people", 0, x.told(0));
         Checks.due("P3 no coats", 0, x.told(1));
@@ -115,6 +123,8 @@ public final class TownTest {
     private static void faults() {
         fault("peopl 2;", 1, 0);
         fault("peoplee 2;", 1, 0);
+        fault("peoplez 2;", 1, 0);
+        fault("peoplea 2;", 1, 0);
         fault("  People 2;", 1, 2);
         fault("peo ple 2;", 1, 0);
         fault("frost 2;people 2;", 1, 0);
@@ -185,6 +195,11 @@ public final class TownTest {
         }
         fault(likes + "likes", 3, likes.length());
         Checks.due("P3 thirty likes", 8, Checks.townOf(likes.toString()).told(0));
+        SharedSleeves thrice = new SharedSleeves();
+        for (int i = 0; i < 4; i++) {
+            Checks.feed(thrice, likes.toString());
+            Checks.due("P3 thirty likes again", 0, thrice.town());
+        }
         Checks.due("P3 eight coats", 8, Checks.townOf(coats.toString()).told(1));
         Checks.due("P3 ten errands", 10, Checks.townOf(goes.toString()).told(2));
     }

@@ -114,8 +114,14 @@ public final class WearTest {
         Checks.due("P19 without the one that has none", 11, x.most());
         SharedSleeves one = Checks.townOf("people 2;coat 0 1 9;goes 0 0 1 5;goes 1 0 3 8;goes 0 1 7 7;goes 1 1 9 9;");
         Checks.due("P19 one at a time", 13, one.most());
+        one.keep(0);
         one.cut(0);
         Checks.due("P19 halves", 15, one.most());
+        one.goBack(0);
+        Checks.due("P19 whole again", 13, one.most());
+        Checks.feed(one, "people 2;coat 0 1 9;goes 0 0 1 1;goes 1 0 3 3;goes 0 1 7 7;");
+        one.town();
+        Checks.due("P19 another town", 7, one.most());
         SharedSleeves like = Checks.townOf("people 2;coat 0 1 9;goes 0 0 1 5;goes 1 0 3 8;");
         Checks.due("P19 the least set", 1, like.most());
         SharedSleeves none = Checks.townOf("people 2;goes 0 0 1 5;");
