@@ -107,6 +107,12 @@ public final class WearTest {
         Checks.due("P18 no coat twice one's", 0, twice.swap());
         SharedSleeves like = Checks.townOf("people 4;coat 0 1 9;coat 2 3 9;likes 0 1 1;likes 0 3 1;likes 2 1 5;");
         Checks.due("P18 both are better off", 0, like.swap());
+        // Two who are better off may leave others worse off, so swaps can go round for ever.
+        SharedSleeves round = Checks.townOf("people 5;coat 2 1 9;coat 0 4 9;coat 4 2 9;likes 0 3 7;likes 0 4 7;likes 1 0 7;"
+            + "likes 1 3 8;likes 1 4 6;likes 2 0 4;likes 2 1 7;likes 2 3 9;likes 2 4 3;likes 3 0 7;likes 3 1 3;likes 3 2 6;"
+            + "likes 3 4 2;likes 4 0 3;likes 4 1 7;likes 4 2 9;likes 4 3 3;");
+        Checks.due("P18 fifty at most", 50, round.swap());
+        Checks.due("P18 fifty more", 50, round.swap());
     }
 
     private static void mostErrands() {
