@@ -96,9 +96,26 @@ public final class RulesTest {
         while (called.find()) {
             Checks.due("library " + called.group(), 1, Arrays.asList("min", "max", "bitCount").contains(called.group(2)) ? 1 : 0);
         }
+        String[] lines = code.split("\n");
+        newInConstructorsAlone(lines);
+        methodsAreShort(lines);
+    }
+
+    /** All calls of one run live in one room: what is made is made once. */
+    private static void newInConstructorsAlone(String[] lines) {
+        String header = "";
+        for (int i = 0; i < lines.length; i++) {
+            boolean opens = lines[i].matches(" {4}( {4})?[\\w\\[\\] ]+\\(.*\\) \\{");
+            header = opens && !lines[i].matches(" +(if|for|while|switch) .*") ? lines[i].strip() : header;
+            if (Pattern.compile("\\bnew\\b").matcher(lines[i]).find()) {
+                Checks.due("new in a constructor alone: " + lines[i].strip(), 1, header.matches("(public )?[A-Z]\\w*\\(.*") ? 1 : 0);
+            }
+        }
+    }
+
+    private static void methodsAreShort(String[] lines) {
         int open = 0;
         int start = 0;
-        String[] lines = code.split("\n");
         for (int i = 0; i < lines.length; i++) {
             int indent = lines[i].length() - lines[i].stripLeading().length();
             boolean closes = lines[i].strip().equals("}");
