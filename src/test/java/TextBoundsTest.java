@@ -365,7 +365,9 @@ public final class TextBoundsTest {
             fault(sentence, 1, ahead + "^" + word + word + rest);
             fault(sentence, 1, ahead + "^" + word.toUpperCase() + rest);
             fault(sentence, 1, ahead + "^" + word.substring(0, 1).toUpperCase() + word.substring(1) + rest);
-            fault(sentence, 1, ahead + "^" + word.substring(0, 2) + "x" + word.substring(3) + rest);
+            for (int i = 0; i < word.length(); i++) {
+                fault(sentence + ", letter " + i, 1, ahead + "^" + word.substring(0, i) + "x" + word.substring(i + 1) + rest);
+            }
             for (char beside : new char[] {'`', '{', '_', 'A', 'Z', (char) 233}) {
                 fault(sentence, 1, ahead + word + "^" + beside + rest);
                 fault(sentence, 1, ahead + "^" + beside + word + rest);
